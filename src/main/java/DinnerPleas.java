@@ -1025,7 +1025,6 @@ public final class DinnerPleas {
         void seek(int side) {
             butter = NONE;
             best.cut(0);
-            trial.cut(0);
             if (verdictOf(court.leaning) == side) {
                 butter = 0;
             } else {
@@ -1106,6 +1105,7 @@ public final class DinnerPleas {
     /** Reads the text token by token; where a token can not stand, its place is the fault. */
     private static final class Reader {
         private static final int END = 0, WORD = 1, NUMBER = 2, STOP = 3, OTHER = 4;
+        private static final int WITHIN_NO_BOUNDS = 100;
         private static final int[] COURT_LEAST = {0};
         private static final int[] COURT_MOST = {9};
         private static final int[] BOOK_LEAST = {0, 0, 0};
@@ -1205,7 +1205,7 @@ public final class DinnerPleas {
             return true;
         }
 
-        /** Goes to the next token: where it starts, of what sort it is, its value. */
+        /** Goes to the next token: where it starts, of what sort it is, its value if it is a number. */
         private void next() {
             while (at < text.many() && text.cell(at, 0) == ' ') {
                 at++;
@@ -1216,25 +1216,13 @@ public final class DinnerPleas {
                 return;
             }
             token = sortOf(text.cell(at, 0));
+            value = text.cell(at, 0) - '0';
             at++;
-            if (token == WORD || token == NUMBER) {
-                while (at < text.many() && sortOf(text.cell(at, 0)) == token) {
-                    at++;
-                }
-            }
-            value = token == NUMBER ? valueOfFigures() : NONE;
-        }
-
-        /** A third figure spoils a number: NONE is within no bounds. */
-        private int valueOfFigures() {
-            int units = text.cell(at - 1, 0) - '0';
-            switch (at - start) {
-                case 1:
-                    return units;
-                case 2:
-                    return 10 * (text.cell(start, 0) - '0') + units;
-                default:
-                    return NONE;
+            boolean isLong = token == WORD || token == NUMBER;
+            while (isLong && at < text.many() && sortOf(text.cell(at, 0)) == token) {
+                // A third figure spoils the whole number.
+                value = at - start < 2 ? 10 * value + text.cell(at, 0) - '0' : WITHIN_NO_BOUNDS;
+                at++;
             }
         }
 

@@ -66,6 +66,10 @@ public final class PromiseTest {
 
     private static void newObject() {
         c.begin("1 a new object");
+        c.due("NONE", NONE, -1);
+        c.due("BAD", BAD, -2);
+        c.due("NO", NO, -3);
+        c.due("FULL", FULL, -4);
         DinnerPleas x = new DinnerPleas();
         int[] counts = {0, 5, 0, 0, 0, 0};
         for (int what = 0; what < counts.length; what++) {
@@ -220,13 +224,14 @@ public final class PromiseTest {
         c.due("count(1)", x.count(1), 9);
         c.due("many blanks, and behind", Checks.readOnly(x, "   court   7  ;  "), 1);
         c.due("count(1)", x.count(1), 7);
-        c.due("no blanks where none are needed", Checks.readOnly(x, "court4;dish5 4 9 9 2;more4 3 2;less0 1 3;"), 4);
+        c.due("no blanks where none are needed", Checks.readOnly(x, "court4;dish5 4 9 9 2;more4 3 2;less0 1 3;less 1 0 2;"), 5);
         int[] last = {5, 4, 9, 9, 2, 0, 0};
         for (int what = 0; what < last.length; what++) {
             c.due("of(0, " + what + ")", x.of(0, what), last[what]);
         }
         c.due("book(4, 3, 0)", x.book(4, 3, 0), 2);
         c.due("book(0, 1, 0)", x.book(0, 1, 0), -3);
+        c.due("book(1, 0, 0)", x.book(1, 0, 0), -2);
         c.due("the later item holds", Checks.readOnly(x, "court 1;more 2 2 3;less 2 2 1;"), 3);
         c.due("book(2, 2, 0)", x.book(2, 2, 0), -1);
         c.due("more and less by 0", Checks.readOnly(x, "court 1;more 2 2 3;less 2 2 0;"), 3);
@@ -242,7 +247,7 @@ public final class PromiseTest {
         x.lean(3);
         Object[][] faults = {
             {"", 0}, {"   ", 3}, {"court", 5}, {"court ", 6}, {"court 5", 7}, {"court 5 ", 8},
-            {"cour", 0}, {"courts 5;", 0}, {"Court 5;", 0}, {"cour t 5;", 0}, {" ;", 1}, {"5", 0}, {"@", 0},
+            {"cour", 0}, {"courts 5;", 0}, {"courta 5;", 0}, {"courtz 5;", 0}, {"xourt 5;", 0}, {"courx 5;", 0}, {"Court 5;", 0}, {"cour t 5;", 0}, {" ;", 1}, {"5", 0}, {"@", 0},
             {"dish 0 0 1 0 0;", 0}, {"more 0 0 0;court 5;", 0}, {"court ;", 6}, {"court court", 6},
             {"court 10;", 6}, {"court 005;", 6}, {"court 5 5;", 8}, {"court 5 dish", 8}, {"court 5\t;", 7},
             {"court -1;", 6}, {"court 5;;", 8}, {"court 5;court 5;", 8}, {"court 5; x", 9}, {"court 5;di", 8},
@@ -573,6 +578,11 @@ public final class PromiseTest {
         DinnerPleas y = new DinnerPleas();
         y.dish(5, 0, 9, 0, 0);
         c.due("one that does nothing is less than none", y.first(1, 0), 0);
+        DinnerPleas z = new DinnerPleas();
+        z.dish(0, 0, 1, 0, 1);
+        z.dish(1, 0, 9, 0, 0);
+        c.due("side 1 waits, too", z.first(2, 1), 8);
+        c.due("then side 0 serves its own", z.play(2, 1), 9);
     }
 
     private static void pardon() {
@@ -588,6 +598,7 @@ public final class PromiseTest {
         x.lean(-1);
         c.due("for s already", x.pardon(1, NONE), 0);
         c.due("for s already, no dish", x.pardon(1, 0), -5);
+        c.due("none", x.pardon(0, NONE), NONE);
         x.lean(-10);
         x.dish(0, 0, 9, 9, 0);
         x.dish(0, 0, 5, 3, 0);
@@ -597,6 +608,8 @@ public final class PromiseTest {
         c.due("pardon(0, 0)", x.pardon(0, 0), 1);
         c.due("pardon(0, 1)", x.pardon(0, 1), 2);
         c.due("pardon(0, 2)", x.pardon(0, 2), -5);
+        c.due("for side 1 already", x.pardon(1, 0), -5);
+        c.due("for side 1 already", x.pardon(1, NONE), 0);
         x.lean(10);
         c.due("side 1", x.pardon(1, NONE), 3);
         c.due("side 1", x.pardon(1, 0), 2);
@@ -747,10 +760,23 @@ public final class PromiseTest {
         c.due("none fits", x.before(0), 0);
         c.due("none fits", x.before(1), -100);
         x.forget();
+        c.due("forgotten", x.before(0), 61);
+        c.due("forgotten", x.before(1), -30);
         x.menu(2);
         x.reading(1, 2);
         c.due("equity", x.before(0), 1);
         c.due("equity", x.before(1), 2);
+        x.book(1, 1, 3);
+        c.due("nothing is ahead of the first", x.before(1), 2);
+        x.forget();
+        x.wipe();
+        x.menu(1);
+        x.menu(0);
+        x.reading(0, 2);
+        c.due("3 - 4", x.before(1), 1);
+        x.book(0, 0, 2);
+        c.due("by the book as it is now: 3 - 6", x.before(1), 3);
+        c.due("of what is known nothing is new", x.tells(0), 1);
     }
 
     private static void tells() {
@@ -871,6 +897,11 @@ public final class PromiseTest {
         c.due("dinners(0, 60)", x.dinners(0, 60), oddLong(0, 60));
         c.due("dinners(999999, 60)", x.dinners(999999, 60), oddLong(999999, 60));
         c.due("dinners(123456, 31)", x.dinners(123456, 31), oddLong(123456, 31));
+        DinnerPleas y = new DinnerPleas();
+        for (int i = 0; i < 8; i++) {
+            y.dish(0, 0, 1, 0, i % 2);
+        }
+        c.due("by their cooks", y.dinners(77, 60), oddLongByCooks(77, 60));
         x.lean(30);
         c.due("far to side 0", x.dinners(5, 60), 60);
         x.lean(-30);
@@ -887,6 +918,23 @@ public final class PromiseTest {
                 x = (x * 1103515245L + 12345L) & 0x7fffffffL;
                 long dish = (x >> 16) % 9;
                 if (dish == 8 || !drawn.add(dish)) {
+                    break;
+                }
+            }
+            odd += drawn.size() % 2;
+        }
+        return odd;
+    }
+
+    /** The same, if the even ones are side 0's and the odd ones side 1's. */
+    private static int oddLongByCooks(long x, int n) {
+        int odd = 0;
+        for (int i = 0; i < n; i++) {
+            java.util.Set<Long> drawn = new java.util.HashSet<>();
+            while (true) {
+                x = (x * 1103515245L + 12345L) & 0x7fffffffL;
+                long dish = (x >> 16) % 9;
+                if (dish == 8 || dish % 2 != drawn.size() % 2 || !drawn.add(dish)) {
                     break;
                 }
             }

@@ -122,7 +122,13 @@ public final class PromiseTest {
         c.due("from(1)", x.from(1), 1);
         c.due("count(0) of the image", x.count(0), 6);
         c.due("leans() of the image", x.leans(), 11);
+        for (int k = 0; k < 25; k++) {
+            x.book(k / 5, k % 5, 1 + k % 3);
+        }
         c.due("court(0)", x.court(0), 6);
+        for (int k = 0; k < 25; k++) {
+            c.due("the book tells nothing", x.book(k / 5, k % 5, 0), 0);
+        }
         c.due("count(1)", x.count(1), 0);
         c.due("court(0) again", x.court(0), 0);
     }
@@ -236,6 +242,10 @@ public final class PromiseTest {
         c.due("book(2, 2, 0)", x.book(2, 2, 0), -1);
         c.due("more and less by 0", Checks.readOnly(x, "court 1;more 2 2 3;less 2 2 0;"), 3);
         c.due("book(2, 2, 0)", x.book(2, 2, 0), 0);
+        c.due("the first text's book is gone", Checks.readOnly(x, "court 1;more 0 0 3;more 3 0 2;"), 3);
+        c.due("the first text's book is gone", Checks.readOnly(x, "court 1;"), 1);
+        c.due("book(0, 0, 0)", x.book(0, 0, 0), 0);
+        c.due("book(3, 0, 0)", x.book(3, 0, 0), 0);
         String eight = "dish 0 0 1 0 0;".repeat(8);
         c.due("8 dishes", Checks.readOnly(x, "court 1;" + eight), 9);
         c.due("count(0)", x.count(0), 8);

@@ -8,7 +8,8 @@ import java.util.regex.Pattern;
 
 /** Runs of drawn calls, each answered by the class and by a plain model that tries everything out. */
 public final class ModelTest {
-    private static final int RUNS = 400, CALLS = 512;
+    // An object answers for 512 calls; a step takes up to two and a digest, a text its bytes, clear, read and a digest.
+    private static final int RUNS = 1200, CALLS = 512, STATUS_CALLS = 3, LONGEST_STEP = 3, TEXT_CALLS = 3;
     private static final Checks c = new Checks();
 
     public static void main(String[] args) {
@@ -22,20 +23,19 @@ public final class ModelTest {
     private static void oneRun(Random r, int sort) {
         DinnerPleas x = new DinnerPleas();
         Model m = new Model();
-        int calls = 0;
-        if (sort != 0) {
-            calls += fill(x, m, r);
-        }
-        while (calls < CALLS && c.isClean()) {
-            if (r.nextInt(60) == 0) {
-                calls += typeText(x, m, drawText(r));
+        int left = CALLS - STATUS_CALLS - (sort != 0 ? fill(x, m, r) : 0);
+        while (left >= LONGEST_STEP && c.isClean()) {
+            String text = r.nextInt(60) == 0 ? drawText(r) : "";
+            if (!text.isEmpty() && text.length() + TEXT_CALLS <= left) {
+                typeText(x, m, text);
+                left -= text.length() + TEXT_CALLS;
             } else {
                 oneCall(x, m, r, sort);
-                calls++;
+                left -= LONGEST_STEP;
             }
             c.due("digest() behind it", x.digest(), m.digest());
         }
-        for (int what = 0; what < 3; what++) {
+        for (int what = 0; what < STATUS_CALLS; what++) {
             c.due("status(" + what + ")", x.status(what), m.status(what));
         }
     }
@@ -54,13 +54,12 @@ public final class ModelTest {
         return dishes + 10;
     }
 
-    private static int typeText(DinnerPleas x, Model m, String text) {
+    private static void typeText(DinnerPleas x, Model m, String text) {
         c.due("clear()", x.clear(), m.clear());
         for (int i = 0; i < text.length(); i++) {
             c.due("type", x.type(text.charAt(i)), m.type(text.charAt(i)));
         }
         c.due("read() of " + text, x.read(), m.read());
-        return text.length() + 2;
     }
 
     /** A text that is mostly right, at times with a byte changed, lost, added, or the end cut off. */

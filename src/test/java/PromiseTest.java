@@ -253,11 +253,10 @@ public final class PromiseTest {
 
     private static void readFaults() {
         c.begin("8 read, faults");
-        DinnerPleas x = sixKinds();
-        x.lean(3);
         Object[][] faults = {
             {"", 0}, {"   ", 3}, {"court", 5}, {"court ", 6}, {"court 5", 7}, {"court 5 ", 8},
-            {"cour", 0}, {"courts 5;", 0}, {"courta 5;", 0}, {"courtz 5;", 0}, {"xourt 5;", 0}, {"courx 5;", 0}, {"Court 5;", 0}, {"cour t 5;", 0}, {" ;", 1}, {"5", 0}, {"@", 0},
+            {"cour", 0}, {"courts 5;", 0}, {"courta 5;", 0}, {"courtz 5;", 0}, {"xourt 5;", 0}, {"courx 5;", 0},
+            {"Court 5;", 0}, {"cour t 5;", 0}, {" ;", 1}, {"5", 0}, {"@", 0},
             {"dish 0 0 1 0 0;", 0}, {"more 0 0 0;court 5;", 0}, {"court ;", 6}, {"court court", 6},
             {"court 10;", 6}, {"court 005;", 6}, {"court 5 5;", 8}, {"court 5 dish", 8}, {"court 5\t;", 7},
             {"court -1;", 6}, {"court 5;;", 8}, {"court 5;court 5;", 8}, {"court 5; x", 9}, {"court 5;di", 8},
@@ -267,16 +266,17 @@ public final class PromiseTest {
             {"court 5;dish 5 4 9 9 2 1;", 23}, {"court 5;more 5", 13}, {"court 5;more 4 5", 15},
             {"court 5;more 4 4 4;", 17}, {"court 5;less 4 4 4;", 17}, {"court 5;less 4 4 -1;", 17},
             {"court 5;less 4 4 3", 18}, {"court 5;less 4 4 3;#", 19}, {"court 5;more 000 0 0;", 13},
-            {"court 5;dishes 0 0 1 0 0;", 8}, {"court 5;dish0 0 1 0 0;MORE 0 0 1;", 22}};
+            {"court 5;dishes 0 0 1 0 0;", 8}, {"court 5;dish0 0 1 0 0;MORE 0 0 1;", 22}, {"court 5;\0", 8},
+            {"court 1;" + "dish 0 0 1 0 0;".repeat(8) + "dish 9", 128}};
         for (Object[] fault : faults) {
-            c.due("read() of " + fault[0], Checks.readOnly(x, (String) fault[0]), -10 - (Integer) fault[1]);
+            readFault((String) fault[0], (Integer) fault[1]);
         }
-        String nine = "court 1;" + "dish 0 0 1 0 0;".repeat(8) + "dish 9";
-        c.due("a 9th dish at its word", Checks.readOnly(x, nine), -10 - 128);
-        x.clear();
-        Checks.typeAll(x, "court 5;");
-        x.type(0);
-        c.due("a byte 0", x.read(), -18);
+    }
+
+    private static void readFault(String text, int place) {
+        DinnerPleas x = sixKinds();
+        x.lean(3);
+        c.due("read() of " + text, Checks.readOnly(x, text), -10 - place);
         c.due("all stays: count(0)", x.count(0), 6);
         c.due("all stays: leans()", x.leans(), 3);
         for (int what = 0; what < 3; what++) {

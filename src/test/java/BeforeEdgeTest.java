@@ -44,13 +44,6 @@ public final class BeforeEdgeTest {
         c.end();
     }
 
-    private static void menuOf(DinnerPleas x, int... dishes) {
-        x.wipe();
-        for (int dish : dishes) {
-            x.menu(dish);
-        }
-    }
-
     // ---- promises 24 and 25
 
     private static void readingsAsMany() {
@@ -69,16 +62,16 @@ public final class BeforeEdgeTest {
     private static void readingsKeepTheMenu() {
         c.begin("24 reading: THE MENU as it is now");
         DinnerPleas x = Courts.plain(3, 5, 1);
-        menuOf(x, 0);
+        Courts.menuOf(x, 0);
         x.reading(0, 2);
         c.due("before(1)", x.before(1), -3);
-        menuOf(x, 1);
+        Courts.menuOf(x, 1);
         c.due("wiped since", x.before(1), -3);
         c.due("wiped since", x.before(0), 1);
-        menuOf(x, 0, 1);
+        Courts.menuOf(x, 0, 1);
         c.due("longer since", x.before(1), -3);
         DinnerPleas y = Courts.plain(ONES);
-        menuOf(y, 7, 6, 5, 4, 3, 2, 1, 0);
+        Courts.menuOf(y, 7, 6, 5, 4, 3, 2, 1, 0);
         y.reading(1, 2);
         y.wipe();
         y.reading(0, 2);
@@ -121,7 +114,7 @@ public final class BeforeEdgeTest {
     /** A menu that pulls the judge by so much (25 to 32) to the side that is first. */
     private static DinnerPleas pulling(int by) {
         DinnerPleas x = Courts.plain(9, 1, 9, 1, 9, 1, by - 23, 1);
-        menuOf(x, 0, 1, 2, 3, 4, 5, 6, 7);
+        Courts.menuOf(x, 0, 1, 2, 3, 4, 5, 6, 7);
         c.due("the pull", x.comes(0), by);
         return x;
     }
@@ -161,11 +154,11 @@ public final class BeforeEdgeTest {
         x.reading(0, 0);
         c.due("above 0: how many", x.before(0), 30);
         c.due("above 0: the least", x.before(1), 1);
-        menuOf(x, 1);
+        Courts.menuOf(x, 1);
         x.reading(1, 1);
         c.due("below 2: how many", x.before(0), 1);
         c.due("below 2: the least", x.before(1), 1);
-        menuOf(x, 0);
+        Courts.menuOf(x, 0);
         x.reading(1, 2);
         c.due("1 alone: how many", x.before(0), 1);
         x.reading(1, 0);
@@ -194,11 +187,11 @@ public final class BeforeEdgeTest {
             x.serve(2, 1);
             x.serve(0, 1);
             x.lean(17);
-            menuOf(x, 0);
+            Courts.menuOf(x, 0);
             x.reading(0, 2);
             c.due("bread, told " + hunger, x.before(1), -4 - hunger);
             x.forget();
-            menuOf(x, 2);
+            Courts.menuOf(x, 2);
             x.reading(1, 2);
             c.due("a stew", x.before(1), 1);
             c.due("tells(0): above -1", x.tells(0), 1);
@@ -216,7 +209,7 @@ public final class BeforeEdgeTest {
         DinnerPleas x = Courts.plain(ONES);
         c.due("an empty menu: 30, 30, 1", x.tells(0), 30);
         c.due("an empty menu", x.tells(1), 30);
-        menuOf(x, 0);
+        Courts.menuOf(x, 0);
         c.due("pulled by 1", x.tells(0), 31);
         c.due("pulled by 1", x.tells(1), 31);
         c.due("pulled by 29: 59, 1, 1", pulling(29).tells(0), 59);
@@ -229,12 +222,12 @@ public final class BeforeEdgeTest {
         c.begin("27 tells: of those by which all READINGS are so");
         DinnerPleas x = Courts.plain(2, 1);
         x.reading(0, 0);
-        menuOf(x, 0);
+        Courts.menuOf(x, 0);
         x.reading(1, 1);
         // 1 alone is above 0 and below 2.
         c.due("one left", x.tells(0), 1);
         c.due("one left", x.tells(1), 1);
-        menuOf(x, 1);
+        Courts.menuOf(x, 1);
         c.due("one left, equity", x.tells(1), 1);
         x.reading(0, 1);
         c.due("none left", x.tells(0), 0);
@@ -242,7 +235,7 @@ public final class BeforeEdgeTest {
         x.wipe();
         x.reading(0, 1);
         c.due("below 0: -30 .. -1", x.tells(0), 30);
-        menuOf(x, 0);
+        Courts.menuOf(x, 0);
         c.due("-30 .. -3, -2, -1", x.tells(0), 28);
         c.due("nothing new", x.tells(1), 30);
     }
@@ -289,7 +282,7 @@ public final class BeforeEdgeTest {
             int[] forces = ONES.clone();
             forces[strong] = 5;
             DinnerPleas x = Courts.plain(forces);
-            menuOf(x, 0, 1, 2, 3, 4, 5, 6, 7);
+            Courts.menuOf(x, 0, 1, 2, 3, 4, 5, 6, 7);
             c.due("4, less 5: " + strong + " matters", x.sure(0), 0);
             x.lean(2);
             c.due("6, less 5", x.sure(0), 1);
@@ -297,7 +290,7 @@ public final class BeforeEdgeTest {
             c.due("5, less 5: equity", x.sure(0), 0);
         }
         DinnerPleas x = Courts.plain(3, 1, 3, 1);
-        menuOf(x, 0, 1, 2, 3);
+        Courts.menuOf(x, 0, 1, 2, 3);
         c.due("one, not two: 4 less 3", x.sure(0), 1);
     }
 
@@ -306,7 +299,7 @@ public final class BeforeEdgeTest {
         DinnerPleas x = new DinnerPleas();
         x.dish(0, 0, 9, 0, 2);
         x.dish(1, 0, 4, 0, 2);
-        menuOf(x, 0, 1);
+        Courts.menuOf(x, 0, 1);
         x.lean(8);
         c.due("9 burnt: 8 - 8", x.sure(0), 0);
         x.lean(9);
@@ -359,7 +352,7 @@ public final class BeforeEdgeTest {
     private static void burntInLowestTerms() {
         c.begin("29 burnt: THE FRACTION in lowest terms, below above 0");
         DinnerPleas x = Courts.plain(1, 1, 1, 1);
-        menuOf(x, 0, 1);
+        Courts.menuOf(x, 0, 1);
         chance(x, 0, 5, 2, 1, 2);
         chance(x, 0, 2, 2, 17, 25);
         chance(x, 0, 3, 2, 29, 50);
@@ -376,7 +369,7 @@ public final class BeforeEdgeTest {
     private static void burntAtMost() {
         c.begin("29 burnt: as many DISHES as may be");
         DinnerPleas x = Courts.plain(ONES);
-        menuOf(x, 0, 1, 2, 3, 4, 5, 6, 7);
+        Courts.menuOf(x, 0, 1, 2, 3, 4, 5, 6, 7);
         x.lean(3);
         // Side 0 first with none of its own whole, side 1 with all of them: 3 - 4.
         chance(x, 0, 3, 1, 3L * 3 * 3 * 3 * 7 * 7 * 7 * 7, 100000000L);
@@ -394,7 +387,7 @@ public final class BeforeEdgeTest {
         c.begin("29 burnt: the chances of 0, 1, 2 are 1 together");
         for (int odds = 0; odds <= 10; odds++) {
             DinnerPleas x = Courts.plain(1, 2, 3, 4, 5, 6, 7, 8);
-            menuOf(x, 0, 1, 2, 3, 4, 5, 6, 7);
+            Courts.menuOf(x, 0, 1, 2, 3, 4, 5, 6, 7);
             long sum = 0;
             for (int v = 0; v <= 2; v++) {
                 x.burnt(0, odds, v);

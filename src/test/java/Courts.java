@@ -15,6 +15,22 @@ final class Courts {
         return new DinnerPleas();
     }
 
+    /** Six dishes, one of each kind, no two of them refused to both sides; the judge as hungry as at first. */
+    static DinnerPleas sixKinds() {
+        DinnerPleas x = new DinnerPleas();
+        addSixKinds(x);
+        return x;
+    }
+
+    private static void addSixKinds(DinnerPleas x) {
+        x.dish(0, 0, 4, 2, 0);
+        x.dish(1, 0, 3, 1, 1);
+        x.dish(2, 1, 2, 0, 2);
+        x.dish(3, 2, 5, 3, 0);
+        x.dish(4, 0, 6, 5, 1);
+        x.dish(5, 3, 7, 4, 2);
+    }
+
     /** Some of all there is; image 1 is not kept. */
     static DinnerPleas midway() {
         DinnerPleas x = new DinnerPleas();
@@ -23,12 +39,7 @@ final class Courts {
         x.lean(-7);
         x.image(0);
         x.court(6);
-        x.dish(0, 0, 4, 2, 0);
-        x.dish(1, 0, 3, 1, 1);
-        x.dish(2, 1, 2, 0, 2);
-        x.dish(3, 2, 5, 3, 0);
-        x.dish(4, 0, 6, 5, 1);
-        x.dish(5, 3, 7, 4, 2);
+        addSixKinds(x);
         x.book(0, 0, -2);
         x.book(1, 2, 3);
         x.book(4, 4, 1);
@@ -85,5 +96,13 @@ final class Courts {
             x.dish(0, 0, forces[i], 0, 2);
         }
         return x;
+    }
+
+    /** These are the menu now. */
+    static void menuOf(DinnerPleas x, int... dishes) {
+        x.wipe();
+        for (int dish : dishes) {
+            x.menu(dish);
+        }
     }
 }

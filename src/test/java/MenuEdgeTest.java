@@ -37,13 +37,6 @@ public final class MenuEdgeTest {
         c.end();
     }
 
-    private static void menuOf(DinnerPleas x, int... dishes) {
-        x.wipe();
-        for (int dish : dishes) {
-            x.menu(dish);
-        }
-    }
-
     private static void serveFirst(DinnerPleas x, int many, int side) {
         for (int i = 0; i < many; i++) {
             x.serve(i, side);
@@ -86,14 +79,14 @@ public final class MenuEdgeTest {
             c.due("did(1, NONE) of " + many, x.did(1, NONE), due > 0 ? 1 : 0);
         }
         DinnerPleas x = Courts.plain(4, 4);
-        menuOf(x, 0, 1);
+        Courts.menuOf(x, 0, 1);
         c.due("equity", x.did(0, NONE), 2);
         x.lean(1);
         c.due("1 above", x.did(0, NONE), 0);
         x.lean(-1);
         c.due("1 below", x.did(0, NONE), 1);
         x.lean(30);
-        menuOf(x, 0);
+        Courts.menuOf(x, 0);
         c.due("beyond what may be told", x.comes(0), 34);
     }
 
@@ -104,7 +97,7 @@ public final class MenuEdgeTest {
             DinnerPleas x = Courts.plain(1, 2, 4, 8);
             x.serve(served, 0);
             x.lean(0);
-            menuOf(x, 0, 1, 2, 3);
+            Courts.menuOf(x, 0, 1, 2, 3);
             c.due("comes(0), " + served + " being served", x.comes(0), sums[served]);
             c.due("comes(1), " + served + " being served", x.comes(1), -sums[served]);
             for (int i = 0; i < 4; i++) {
@@ -112,7 +105,7 @@ public final class MenuEdgeTest {
             }
         }
         DinnerPleas x = Courts.plain(ONES);
-        menuOf(x, 0, 1, 2, 3, 4, 5, 6, 7);
+        Courts.menuOf(x, 0, 1, 2, 3, 4, 5, 6, 7);
         serveFirst(x, 7, 0);
         c.due("all but the last: comes(0)", x.comes(0), 8);
         c.due("all but the last: comes(1)", x.comes(1), 6);
@@ -138,7 +131,7 @@ public final class MenuEdgeTest {
         x.book(2, 3, 1);
         x.serve(0, 0);
         x.serve(1, 1);
-        menuOf(x, 0, 2);
+        Courts.menuOf(x, 0, 2);
         c.due("the last is dish 1, n is 2", x.did(0, 1), 5 + 2 + 1);
         c.due("comes(0)", x.comes(0), 8);
     }
@@ -149,7 +142,7 @@ public final class MenuEdgeTest {
         x.dish(5, 0, 9, 0, 2);
         x.dish(2, 1, 4, 0, 2);
         x.book(0, 1, 2);
-        menuOf(x, 0, 1);
+        Courts.menuOf(x, 0, 1);
         c.due("did(0, 0)", x.did(0, 0), 0);
         c.due("did(0, 1)", x.did(0, 1), 4 + 1 + 2);
         c.due("comes(0)", x.comes(0), -7);
@@ -175,7 +168,7 @@ public final class MenuEdgeTest {
         x.dish(3, 0, 1, 0, 2);
         x.dish(3, 0, 1, 0, 2);
         x.dish(3, 0, 1, 0, 2);
-        menuOf(x, 1, 2, 3);
+        Courts.menuOf(x, 1, 2, 3);
         int[] atFirst = {3, 2, 1};
         int[] thereafter = {2, 1, 1};
         for (int i = 0; i < 3; i++) {

@@ -43,27 +43,6 @@ public final class PromiseTest {
         c.end();
     }
 
-    /** Six dishes, one of each kind, no two of them refused to both sides; the judge as hungry as at first. */
-    private static DinnerPleas sixKinds() {
-        DinnerPleas x = new DinnerPleas();
-        x.dish(0, 0, 4, 2, 0);
-        x.dish(1, 0, 3, 1, 1);
-        x.dish(2, 1, 2, 0, 2);
-        x.dish(3, 2, 5, 3, 0);
-        x.dish(4, 0, 6, 5, 1);
-        x.dish(5, 3, 7, 4, 2);
-        return x;
-    }
-
-    /** Plain dishes of both, each of a taste of no account, of these forces. */
-    private static DinnerPleas plainOnes(int... forces) {
-        DinnerPleas x = new DinnerPleas();
-        for (int force : forces) {
-            x.dish(0, 0, force, 0, 2);
-        }
-        return x;
-    }
-
     private static void newObject() {
         c.begin("1 a new object");
         c.due("NONE", NONE, -1);
@@ -93,7 +72,7 @@ public final class PromiseTest {
 
     private static void court() {
         c.begin("2 court");
-        DinnerPleas x = sixKinds();
+        DinnerPleas x = Courts.sixKinds();
         c.due("court(-1)", x.court(-1), BAD);
         c.due("court(10)", x.court(10), BAD);
         c.due("court(lowest)", x.court(LOW), BAD);
@@ -274,7 +253,7 @@ public final class PromiseTest {
     }
 
     private static void readFault(String text, int place) {
-        DinnerPleas x = sixKinds();
+        DinnerPleas x = Courts.sixKinds();
         x.lean(3);
         c.due("read() of " + text, Checks.readOnly(x, text), -10 - place);
         c.due("all stays: count(0)", x.count(0), 6);
@@ -286,7 +265,7 @@ public final class PromiseTest {
 
     private static void readTakesPlace() {
         c.begin("8 read, takes the place of");
-        DinnerPleas x = sixKinds();
+        DinnerPleas x = Courts.sixKinds();
         x.book(0, 0, 3);
         x.lean(9);
         x.image(0);
@@ -312,7 +291,7 @@ public final class PromiseTest {
 
     private static void serveByKinds() {
         c.begin("9 serve, the kinds");
-        DinnerPleas x = sixKinds();
+        DinnerPleas x = Courts.sixKinds();
         int[] alone = {4, 3, 2, 10, 6, 0};
         int[] behindPlain = {4, 6, 3, 9, 15, 0};
         for (int i = 0; i < 6; i++) {
@@ -347,7 +326,7 @@ public final class PromiseTest {
 
     private static void serveRefused() {
         c.begin("9 serve, refused");
-        DinnerPleas x = sixKinds();
+        DinnerPleas x = Courts.sixKinds();
         c.due("serve(-1, 0)", x.serve(-1, 0), BAD);
         c.due("serve(6, 0)", x.serve(6, 0), BAD);
         c.due("serve(0, -1)", x.serve(0, -1), BAD);
@@ -385,7 +364,7 @@ public final class PromiseTest {
 
     private static void undo() {
         c.begin("10 undo");
-        DinnerPleas x = sixKinds();
+        DinnerPleas x = Courts.sixKinds();
         c.due("undo()", x.undo(), NO);
         c.due("status(1)", x.status(1), 1);
         x.serve(0, 0);
@@ -413,7 +392,7 @@ public final class PromiseTest {
 
     private static void of() {
         c.begin("11 of");
-        DinnerPleas x = sixKinds();
+        DinnerPleas x = Courts.sixKinds();
         int[] third = {3, 2, 5, 3, 0, 0, 10};
         for (int what = 0; what < third.length; what++) {
             c.due("of(3, " + what + ")", x.of(3, what), third[what]);
@@ -431,7 +410,7 @@ public final class PromiseTest {
 
     private static void course() {
         c.begin("12 course");
-        DinnerPleas x = sixKinds();
+        DinnerPleas x = Courts.sixKinds();
         c.due("course(0, 0)", x.course(0, 0), BAD);
         x.serve(2, 1);
         x.lean(5);
@@ -453,7 +432,7 @@ public final class PromiseTest {
 
     private static void leansAndVerdict() {
         c.begin("13 leans, 14 verdict");
-        DinnerPleas x = sixKinds();
+        DinnerPleas x = Courts.sixKinds();
         x.lean(30);
         x.serve(0, 0);
         c.due("beyond 30", x.leans(), 34);
@@ -472,7 +451,7 @@ public final class PromiseTest {
 
     private static void menuAndWipe() {
         c.begin("15 menu, 16 wipe");
-        DinnerPleas x = sixKinds();
+        DinnerPleas x = Courts.sixKinds();
         c.due("wipe()", x.wipe(), 0);
         c.due("menu(-1)", x.menu(-1), BAD);
         c.due("menu(6)", x.menu(6), BAD);
@@ -493,7 +472,7 @@ public final class PromiseTest {
 
     private static void comesAndDid() {
         c.begin("17 comes, 18 did");
-        DinnerPleas x = sixKinds();
+        DinnerPleas x = Courts.sixKinds();
         c.due("comes(-1)", x.comes(-1), -1000);
         c.due("comes(2)", x.comes(2), -1000);
         c.due("did(-1, 0)", x.did(-1, 0), -10);
@@ -526,7 +505,7 @@ public final class PromiseTest {
 
     private static void comesPassesOver() {
         c.begin("17 comes, passes over");
-        DinnerPleas x = plainOnes(1, 2, 4, 8);
+        DinnerPleas x = Courts.plain(1, 2, 4, 8);
         x.serve(1, 0);
         for (int i = 0; i < 4; i++) {
             x.menu(i);
@@ -542,7 +521,7 @@ public final class PromiseTest {
 
     private static void playAndFirst() {
         c.begin("19 play, 20 first");
-        DinnerPleas x = sixKinds();
+        DinnerPleas x = Courts.sixKinds();
         c.due("play(0, 0)", x.play(0, 0), -1000);
         c.due("play(6, 0)", x.play(6, 0), -1000);
         c.due("play(1, -1)", x.play(1, -1), -1000);
@@ -561,7 +540,7 @@ public final class PromiseTest {
         c.due("play(2, 0)", x.play(2, 0), 1 + 10 - 9);
         c.due("first(2, 0)", x.first(2, 0), 3);
 
-        DinnerPleas y = plainOnes(3, 5, 5, 1);
+        DinnerPleas y = Courts.plain(3, 5, 5, 1);
         c.due("the least of like ones", y.first(1, 0), 1);
         c.due("play(3, 0)", y.play(3, 0), 5 - 5 + 3);
         c.due("play(4, 1)", y.play(4, 1), -(5 - 5 + 3 - 1));
@@ -663,7 +642,7 @@ public final class PromiseTest {
 
     private static void cancel() {
         c.begin("22 cancel");
-        DinnerPleas x = plainOnes(3, 2, 3, 2, 3);
+        DinnerPleas x = Courts.plain(3, 2, 3, 2, 3);
         c.due("cancel(-2)", x.cancel(-2), -10);
         c.due("status(0)", x.status(0), 1);
         c.due("how many", x.cancel(NONE), 4);
@@ -689,7 +668,7 @@ public final class PromiseTest {
         y.book(0, 1, 0);
         y.book(1, 0, 1);
         c.due("either way", y.cancel(NONE), 0);
-        DinnerPleas z = plainOnes(1, 1, 1, 1, 1, 1, 1, 1);
+        DinnerPleas z = Courts.plain(1, 1, 1, 1, 1, 1, 1, 1);
         for (int i = 0; i < 6; i++) {
             z.serve(i, 0);
         }
@@ -725,7 +704,7 @@ public final class PromiseTest {
 
     private static void readingAndForget() {
         c.begin("24 reading, 25 forget");
-        DinnerPleas x = sixKinds();
+        DinnerPleas x = Courts.sixKinds();
         c.due("reading(-1, 0)", x.reading(-1, 0), BAD);
         c.due("reading(2, 0)", x.reading(2, 0), BAD);
         c.due("reading(0, -1)", x.reading(0, -1), BAD);
@@ -745,7 +724,7 @@ public final class PromiseTest {
 
     private static void before() {
         c.begin("26 before");
-        DinnerPleas x = sixKinds();
+        DinnerPleas x = Courts.sixKinds();
         c.due("before(-1)", x.before(-1), -1000);
         c.due("before(2)", x.before(2), -1000);
         c.due("status(0)", x.status(0), 2);
@@ -791,7 +770,7 @@ public final class PromiseTest {
 
     private static void tells() {
         c.begin("27 tells");
-        DinnerPleas x = sixKinds();
+        DinnerPleas x = Courts.sixKinds();
         c.due("tells(-1)", x.tells(-1), BAD);
         c.due("tells(2)", x.tells(2), BAD);
         c.due("status(0)", x.status(0), 2);
@@ -814,7 +793,7 @@ public final class PromiseTest {
 
     private static void sure() {
         c.begin("28 sure");
-        DinnerPleas x = plainOnes(3, 2, 2);
+        DinnerPleas x = Courts.plain(3, 2, 2);
         c.due("sure(-1)", x.sure(-1), BAD);
         c.due("sure(2)", x.sure(2), BAD);
         c.due("status(0)", x.status(0), 2);
@@ -847,7 +826,7 @@ public final class PromiseTest {
 
     private static void burntAndPart() {
         c.begin("29 burnt, 31 part");
-        DinnerPleas x = plainOnes(2, 1, 4);
+        DinnerPleas x = Courts.plain(2, 1, 4);
         c.due("burnt(-1, 0, 0)", x.burnt(-1, 0, 0), BAD);
         c.due("burnt(2, 0, 0)", x.burnt(2, 0, 0), BAD);
         c.due("burnt(0, -1, 0)", x.burnt(0, -1, 0), BAD);
@@ -876,7 +855,7 @@ public final class PromiseTest {
         x.lean(-1);
         chance(x, 0, 2, 2, 4, 5);
         chance(x, 0, 2, 1, 1, 5);
-        DinnerPleas y = plainOnes(1, 1, 1, 1, 1, 1, 1, 1);
+        DinnerPleas y = Courts.plain(1, 1, 1, 1, 1, 1, 1, 1);
         for (int i = 0; i < 8; i++) {
             y.menu(i);
         }
@@ -897,7 +876,7 @@ public final class PromiseTest {
 
     private static void dinners() {
         c.begin("30 dinners");
-        DinnerPleas x = plainOnes(1, 1, 1, 1, 1, 1, 1, 1);
+        DinnerPleas x = Courts.plain(1, 1, 1, 1, 1, 1, 1, 1);
         c.due("dinners(-1, 0)", x.dinners(-1, 0), BAD);
         c.due("dinners(1000000, 0)", x.dinners(1000000, 0), BAD);
         c.due("dinners(0, -1)", x.dinners(0, -1), BAD);
@@ -955,7 +934,7 @@ public final class PromiseTest {
 
     private static void images() {
         c.begin("32 image, 33 from");
-        DinnerPleas x = sixKinds();
+        DinnerPleas x = Courts.sixKinds();
         c.due("image(-1)", x.image(-1), BAD);
         c.due("image(2)", x.image(2), BAD);
         c.due("from(-1)", x.from(-1), BAD);
@@ -1023,7 +1002,7 @@ public final class PromiseTest {
 
     private static void count() {
         c.begin("35 count");
-        DinnerPleas x = sixKinds();
+        DinnerPleas x = Courts.sixKinds();
         c.due("count(-1)", x.count(-1), BAD);
         c.due("count(6)", x.count(6), BAD);
         c.due("status(0)", x.status(0), 2);

@@ -6,6 +6,7 @@ import com.sun.source.tree.LambdaExpressionTree;
 import com.sun.source.tree.MemberReferenceTree;
 import com.sun.source.tree.MethodInvocationTree;
 import com.sun.source.tree.MethodTree;
+import com.sun.source.tree.NewArrayTree;
 import com.sun.source.tree.NewClassTree;
 import com.sun.source.tree.SynchronizedTree;
 import com.sun.source.tree.ThrowTree;
@@ -16,14 +17,17 @@ import com.sun.source.util.JavacTask;
 import com.sun.source.util.TreePathScanner;
 import com.sun.source.util.Trees;
 import java.io.File;
+import java.lang.reflect.Array;
 import java.lang.reflect.Constructor;
 import java.lang.reflect.Field;
 import java.lang.reflect.Member;
 import java.lang.reflect.Method;
 import java.lang.reflect.Modifier;
 import java.util.ArrayList;
+import java.util.Collections;
 import java.util.HashMap;
 import java.util.HashSet;
+import java.util.IdentityHashMap;
 import java.util.List;
 import java.util.Map;
 import java.util.Set;
@@ -52,8 +56,12 @@ public final class LanguageTest {
             "burnt(int,int,int)", "dinners(int,int)", "part(int)", "image(int)", "from(int)", "status(int)",
             "count(int)", "digest()");
 
+    // Of one object; the room of a run holds some 600,000 objects and 7.3 million fields and elements.
+    private static final int MOST_OBJECTS = 100, MOST_ELEMENTS = 2000;
+
     public static void main(String[] args) throws Exception {
         face();
+        room();
         JavaCompiler compiler = ToolProvider.getSystemJavaCompiler();
         try (StandardJavaFileManager files = compiler.getStandardFileManager(null, null, null)) {
             JavacTask task = (JavacTask) compiler.getTask(null, files, null, List.of("-proc:none"), null,
@@ -79,7 +87,12 @@ public final class LanguageTest {
                 c.holds(m + " is public and answers as told", Modifier.isPublic(m.getModifiers())
                         && m.getReturnType() == (isLong ? long.class : int.class) && !Modifier.isStatic(m.getModifiers()));
             } else {
-                c.holds(m.getName() + " bears no public name", FACE.stream().noneMatch(f -> f.startsWith(m.getName() + "(")));
+                bearsNoPublicName(m);
+            }
+        }
+        for (Class<?> inner : DinnerPleas.class.getDeclaredClasses()) {
+            for (Method m : inner.getDeclaredMethods()) {
+                bearsNoPublicName(m);
             }
         }
         c.holds("the methods shown are the document's: " + shown, shown.equals(new TreeSet<>(FACE)));
@@ -95,6 +108,36 @@ public final class LanguageTest {
         c.holds("a final class", Modifier.isFinal(DinnerPleas.class.getModifiers()));
     }
 
+    private static void bearsNoPublicName(Method m) {
+        c.holds(m + " bears no public name", FACE.stream().noneMatch(f -> f.startsWith(m.getName() + "(")));
+    }
+
+    /** What one object takes of the room, with all that it holds; as no call makes anything, it stays so. */
+    private static void room() throws IllegalAccessException {
+        c.begin("rule 12");
+        Set<Object> seen = Collections.newSetFromMap(new IdentityHashMap<>());
+        int elements = gather(new DinnerPleas(), seen);
+        c.holds(seen.size() + " objects", seen.size() <= MOST_OBJECTS);
+        c.holds(elements + " fields and elements", elements <= MOST_ELEMENTS);
+    }
+
+    private static int gather(Object o, Set<Object> seen) throws IllegalAccessException {
+        if (o == null || !seen.add(o)) {
+            return 0;
+        }
+        if (o.getClass().isArray()) {
+            return Array.getLength(o);
+        }
+        int elements = 0;
+        for (Field f : o.getClass().getDeclaredFields()) {
+            if (!Modifier.isStatic(f.getModifiers())) {
+                f.setAccessible(true);
+                elements += 1 + (f.getType().isPrimitive() ? 0 : gather(f.get(o), seen));
+            }
+        }
+        return elements;
+    }
+
     private static boolean isPublic(Member member) {
         return Modifier.isPublic(member.getModifiers());
     }
@@ -104,6 +147,7 @@ public final class LanguageTest {
         private final CompilationUnitTree unit;
         private final Trees trees;
         private final Map<String, Set<String>> calls = new HashMap<>();
+        private final Set<String> constructors = new HashSet<>();
         private final List<String> open = new ArrayList<>();
         private int classes = 0;
 
@@ -177,6 +221,9 @@ public final class LanguageTest {
             c.holds(name + " is short", line(tree, true) - line(tree, false) < 60);
             c.holds(name + " has few parameters", tree.getParameters().size() <= 7);
             calls.putIfAbsent(name, new HashSet<>());
+            if (element.getKind() == ElementKind.CONSTRUCTOR) {
+                constructors.add(name);
+            }
             open.add(name);
             super.visitMethod(tree, p);
             open.remove(open.size() - 1);
@@ -194,8 +241,22 @@ public final class LanguageTest {
             if (tree.getClassBody() != null) {
                 no("an anonymous class", tree);
             }
+            onlyWhereAnObjectIsMade(tree);
             note(trees.getElement(getCurrentPath()), tree);
             return super.visitNewClass(tree, p);
+        }
+
+        @Override
+        public Void visitNewArray(NewArrayTree tree, Void p) {
+            onlyWhereAnObjectIsMade(tree);
+            return super.visitNewArray(tree, p);
+        }
+
+        /** In a constructor or a field's own line; a call that makes something would fill the room. */
+        private void onlyWhereAnObjectIsMade(Tree tree) {
+            c.begin("rule 12");
+            boolean isCall = !open.isEmpty() && !constructors.contains(open.get(open.size() - 1));
+            c.holds("new in line " + line(tree, false), !isCall);
         }
 
         private void note(Element called, Tree tree) {
